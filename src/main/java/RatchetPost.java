@@ -671,11 +671,11 @@ public final class RatchetPost {
         }
 
         static long letterKey(long chain) {
-            return key(KEY_LETTER, chain, 0);
+            return mix(mix(KEY_LETTER, chain), 0);
         }
 
         static long nextOf(long chain) {
-            return key(KEY_NEXT, chain, 0);
+            return mix(mix(KEY_NEXT, chain), 0);
         }
 
         static int veil(long letterKey, int place) {
@@ -1230,8 +1230,26 @@ public final class RatchetPost {
             keptAt = session.kept.find(letter.open, letter.place);
             if (keptAt >= 0) {
                 key = session.kept.keyAt(keptAt);
-                return letter.hasTagOf(key) ? NO_FAULT : FAULT_TAG;
+            } else {
+                int fault = countSteps(session, letter);
+                if (fault != NO_FAULT) {
+                    return fault;
+                }
+                chain = session.receiving;
+                step(0, oldCount);
+                if (turns) {
+                    long x = Numbers.power(letter.open, session.own.value);
+                    chain = Numbers.key(KEY_CHAIN, session.root, x);
+                    root = Numbers.key(KEY_ROOT, session.root, x);
+                }
+                step(oldCount, newCount);
+                key = Numbers.letterKey(chain);
+                chain = Numbers.nextOf(chain);
             }
+            return letter.hasTagOf(key) ? NO_FAULT : FAULT_TAG;
+        }
+
+        private int countSteps(Session session, Envelope letter) {
             turns = !session.hasOther || letter.open != session.other;
             if (!turns && session.receivingTurn == null) {
                 return FAULT_TAG;
@@ -1246,21 +1264,7 @@ public final class RatchetPost {
             if (many > MOST_KEPT_AT_ONCE || session.kept.size + many > MOST_KEPT) {
                 return FAULT_SKIPPED;
             }
-            planSteps(session, letter.open);
-            return letter.hasTagOf(key) ? NO_FAULT : FAULT_TAG;
-        }
-
-        private void planSteps(Session session, long open) {
-            chain = session.receiving;
-            step(0, oldCount);
-            if (turns) {
-                long x = Numbers.power(open, session.own.value);
-                chain = Numbers.key(KEY_CHAIN, session.root, x);
-                root = Numbers.key(KEY_ROOT, session.root, x);
-            }
-            step(oldCount, newCount);
-            key = Numbers.letterKey(chain);
-            chain = Numbers.nextOf(chain);
+            return NO_FAULT;
         }
 
         private void step(int first, int many) {
