@@ -21,7 +21,7 @@ public final class PromiseTests {
     promise = 7; write(); writeBytes(); writeFull();
     promise = 8; begin(); beginRow();
     promise = 9; forget();
-    promise = 10; come(); comeFaults(); comeBeginningFaults(); comeSkipped(); comeTurned(); comeOrder(); comeWithoutChain();
+    promise = 10; come(); comeFaults(); comeBeginningFaults(); comeSkipped(); comeTurned(); comeOrder(); comeWithoutChain(); comeAsAnotherKind();
     promise = 11; byteOf();
     promise = 12; copy();
     promise = 13; spoil();
@@ -237,6 +237,11 @@ public final class PromiseTests {
     }
     due("publish(1, 6) of 55", y.publish(1, 6), FULL);
     due("publish(1, 5) of 55", y.publish(1, 5), 5);
+    due("SECRETS of 60", y.user(1, 6), 60);
+    for (int k = 0; k < 5; k++) y.begin(0, 1);
+    due("ONCE key 60", bytesOf(y, send(y, 0, 1, 1), 21, 2), 60);
+    due("come", y.come(0, 1), 1);
+    due("SECRETS of 59", y.user(1, 6), 59);
   }
 
   private static void rotate() {
@@ -611,6 +616,26 @@ public final class PromiseTests {
     refused(x, answer, 0, -14);
     overwrite(x, answer, 3, right, 8);
     due("as it was", x.come(answer, 0), 2);
+  }
+
+  /** A letter that bears the other kind's number, and the TEXT's length that this kind's row of bytes would need. */
+  private static void comeAsAnotherKind() {
+    for (int many : new int[] {1, 20, 21, 40}) {
+      RatchetPost x = registered(2, 127);
+      int l = send(x, 0, 1, many);
+      overwrite(x, l, 0, 2, 1);
+      overwrite(x, l, 15, many + 20, 1);
+      refused(x, l, 1, many + 20 > 40 ? -11 : -13);
+    }
+    for (int many : new int[] {1, 11, 12, 19, 20, 21, 40}) {
+      RatchetPost x = registered(2, 128);
+      x.come(send(x, 0, 1, 1), 1);
+      int l = send(x, 1, 0, many);
+      overwrite(x, l, 0, 1, 1);
+      overwrite(x, l, 19, 7, 2);
+      if (x.letter(l, -1) > 35) overwrite(x, l, 35, many - 20, 1);
+      refused(x, l, 0, many - 20 < 1 ? -11 : -17);
+    }
   }
 
   private static void byteOf() {

@@ -1090,7 +1090,7 @@ public final class RatchetPost {
 
         void giveAway() {
             markGot(identity);
-            for (int number = Math.max(1, lentNumber - 1); number <= lentNumber; number++) {
+            for (int number = 1; number <= lentNumber; number++) {
                 markGot(keptLentKey(number));
             }
             for (int number = 1; number <= onceMade; number++) {
