@@ -41,6 +41,8 @@ public final class RatchetPost {
     // Every coming letter is taken apart and tried in these two, so that none needs its own.
     private final Envelope envelope = new Envelope();
     private final Opening opening = new Opening();
+    private final Looker looker = new Looker();
+    private final Turn noTurn = new Turn(null, new long[0]);
 
     public RatchetPost(int n, int seed) {
         int users = Math.max(LEAST_USERS, Math.min(MOST_USERS, n));
@@ -48,6 +50,8 @@ public final class RatchetPost {
         for (int u = 0; u < users; u++) {
             people[u] = new Person((long) seed + u, users);
         }
+        // The first ROOTS come of nothing but COMMONS: what they follow is known to everybody.
+        noTurn.giveRoot();
     }
 
     // ---- the tape
@@ -174,12 +178,11 @@ public final class RatchetPost {
         if (!isLetter(letter) || !isUser(u)) {
             return BAD;
         }
-        Letter coming = letters[letter];
-        int fault = faultAtTheDoor(coming, u);
+        int fault = faultAtTheDoor(letters[letter], u);
         if (fault == NO_FAULT) {
             fault = envelope.begins
-                    ? openWithBeginning(people[u], coming)
-                    : openWithoutBeginning(people[u], coming);
+                    ? openWithBeginning(people[u])
+                    : openWithoutBeginning(people[u]);
         }
         if (fault != NO_FAULT) {
             return FAULT_BASE - fault;
@@ -363,7 +366,7 @@ public final class RatchetPost {
         if (!isUser(u)) {
             return BAD;
         }
-        people[u].giveAway();
+        people[u].giveAway(looker);
         lookCount++;
         return lookCount;
     }
@@ -373,7 +376,7 @@ public final class RatchetPost {
             return BAD;
         }
         Letter asked = letters[letter];
-        return oneIf(asked.turn.givesKey(asked.place));
+        return oneIf(asked.turn.givesKey(asked.place, looker));
     }
 
     public int count(int what) {
@@ -431,24 +434,31 @@ public final class RatchetPost {
         if (!other.sealIsRight()) {
             return SEAL_WRONG;
         }
-        Secret lentKey = other.lentKey(other.lentNumber);
-        Secret onceKey = other.onceKey(once);
+        long onceOpen = openOf(other.onceKey(once));
         Secret fresh = writer.drawSecret();
         long root = Numbers.sum(
                 Numbers.power(other.lentOpen, writer.identity.value),
                 Numbers.power(other.identity.open, fresh.value),
                 Numbers.power(other.lentOpen, fresh.value),
-                Numbers.power(openOf(onceKey), fresh.value));
+                Numbers.power(onceOpen, fresh.value));
         Secret pair = writer.drawSecret();
         Session session = new Session(true, root, fresh.open, pair);
+        session.rootTurn = noTurn.turnOf(firstPairs(
+                writer.identity.open, other.identity.open, fresh.open, other.lentOpen, onceOpen));
         session.beginningLent = other.lentNumber;
         session.beginningOnce = once;
         session.meet(other.lentOpen);
-        Start start = new Start(writer.identity, other.identity, fresh, lentKey, onceKey);
-        session.turnSending(new Turn(null, start, pair, lentKey));
+        session.turnSending(pair);
         writer.rows[v].putFirst(session);
         begunCount++;
         return 1;
+    }
+
+    /** The pairs of PUBLIC numbers that A, B, C and, with a ONCE key (not 0), D are of. */
+    private static long[] firstPairs(long writer, long other, long fresh, long lent, long once) {
+        return once == 0
+                ? new long[] {writer, lent, fresh, other, fresh, lent}
+                : new long[] {writer, lent, fresh, other, fresh, lent, fresh, once};
     }
 
     private Letter writeIn(Session session, int u, int v) {
@@ -491,16 +501,16 @@ public final class RatchetPost {
         return openedCount >= MOST_OPENED ? FAULT_FULL : NO_FAULT;
     }
 
-    private int openWithBeginning(Person person, Letter coming) {
+    private int openWithBeginning(Person person) {
         int at = person.rows[envelope.from].begunByOther(envelope.beginningOpen);
-        return at >= 0 ? openIn(person, at, coming) : openInNew(person, coming);
+        return at >= 0 ? openIn(person, at) : openInNew(person);
     }
 
-    private int openWithoutBeginning(Person person, Letter coming) {
+    private int openWithoutBeginning(Person person) {
         int many = person.rows[envelope.from].size;
         int firstFault = FAULT_NO_SESSION;
         for (int at = 0; at < many; at++) {
-            int fault = openIn(person, at, coming);
+            int fault = openIn(person, at);
             if (fault == NO_FAULT) {
                 return NO_FAULT;
             }
@@ -511,7 +521,7 @@ public final class RatchetPost {
         return firstFault;
     }
 
-    private int openIn(Person person, int at, Letter coming) {
+    private int openIn(Person person, int at) {
         Row row = person.rows[envelope.from];
         Session session = row.at(at);
         if (session == null) {
@@ -519,13 +529,13 @@ public final class RatchetPost {
         }
         int fault = opening.plan(session, envelope);
         if (fault == NO_FAULT) {
-            opening.carryOut(session, envelope, coming.turn, person);
+            opening.carryOut(session, envelope, person);
             row.bringFirst(at);
         }
         return fault;
     }
 
-    private int openInNew(Person person, Letter coming) {
+    private int openInNew(Person person) {
         Secret lentKey = person.keptLentKey(envelope.lentNumber);
         if (lentKey == null) {
             return FAULT_LENT;
@@ -548,7 +558,9 @@ public final class RatchetPost {
         Session session = new Session(false, root, envelope.beginningOpen, lentKey);
         int fault = opening.plan(session, envelope);
         if (fault == NO_FAULT) {
-            opening.carryOut(session, envelope, coming.turn, person);
+            session.rootTurn = noTurn.turnOf(firstPairs(envelope.identity, person.identity.open,
+                    envelope.beginningOpen, lentKey.open, openOf(onceKey)));
+            opening.carryOut(session, envelope, person);
             person.rows[envelope.from].putFirst(session);
             person.useOnce(envelope.onceNumber);
             person.remember(envelope.beginningOpen, envelope.lentNumber);
@@ -683,11 +695,13 @@ public final class RatchetPost {
         }
     }
 
-    /** A SECRET with its PUBLIC number, and whether somebody who LOOKED got it. */
+    /** A SECRET with its PUBLIC number. */
     private static final class Secret {
         final long value;
         final long open;
-        boolean got;
+        // Who LOOKED has what it got in a chain, the newest first.
+        private boolean got;
+        private Secret gotBefore;
 
         Secret(long value, long open) {
             this.value = value;
@@ -695,54 +709,88 @@ public final class RatchetPost {
         }
     }
 
-    /** The SECRETS that the first ROOT of a session came of. */
-    private static final class Start {
-        private final Secret writer;
-        private final Secret other;
-        private final Secret fresh;
-        private final Secret lent;
-        private final Secret once;
+    /** Who LOOKED, with all SECRETS that it got. */
+    private static final class Looker {
+        private Secret gotLast;
 
-        /** once is null if there was none. */
-        Start(Secret writer, Secret other, Secret fresh, Secret lent, Secret once) {
-            this.writer = writer;
-            this.other = other;
-            this.fresh = fresh;
-            this.lent = lent;
-            this.once = once;
+        void take(Secret secret) {
+            if (secret != null && !secret.got) {
+                secret.got = true;
+                secret.gotBefore = gotLast;
+                gotLast = secret;
+            }
         }
 
-        boolean isWorkedOut() {
-            return oneGot(writer, lent) && oneGot(fresh, other) && oneGot(fresh, lent)
-                    && (once == null || oneGot(fresh, once));
+        /** Asked by the PUBLIC number, because a forged or spoilt one has no SECRET or another one. */
+        private boolean hasSecretOf(long open) {
+            for (Secret at = gotLast; at != null; at = at.gotBefore) {
+                if (at.open == open) {
+                    return true;
+                }
+            }
+            return false;
         }
 
-        static boolean oneGot(Secret one, Secret two) {
-            return one != null && one.got || two != null && two.got;
+        /** Whether of each pair of PUBLIC numbers it has one SECRET. */
+        boolean worksOut(long[] pairs) {
+            for (int i = 0; i + 1 < pairs.length; i += 2) {
+                if (!hasSecretOf(pairs[i]) && !hasSecretOf(pairs[i + 1])) {
+                    return false;
+                }
+            }
+            return true;
         }
     }
 
     /**
-     * How a chain and the ROOT beside it came to be, and what of them was got by LOOKS. Both
-     * sides of a session share it: what is got at one side is known of the other side's too.
+     * How a ROOT and the chain beside it came to be, and what of them was got by LOOKS: of the
+     * ROOT of the turn before and of COMMONS, which are told by their pairs of PUBLIC numbers. (A
+     * first ROOT has no chain.) What came to be in one way is one turn, whoever worked it out: so
+     * what is got at one side is known of the other side's too, as far as both went the same way.
      */
     private static final class Turn {
-        private static final int MOST_TURNS = 1000, NEVER = 1_000_000;
+        private static final int MOST_TURNS = 2000, NEVER = 1_000_000;
 
         private final Turn before;
-        private final Start start;
-        final Secret own;
-        private final Secret other;
+        private final long[] pairs;
+        // The turns that follow this one are a chain of sisters, the newest first.
+        private Turn newestAfter;
+        private Turn olderSister;
         private boolean rootGot;
         private int chainGotFrom = NEVER;
         private final boolean[] keyGot = new boolean[MOST_LETTERS];
 
-        /** Of the ROOT of the turn before, or, where that is null, of the first one. */
-        Turn(Turn before, Start start, Secret own, Secret other) {
+        Turn(Turn before, long[] pairs) {
             this.before = before;
-            this.start = start;
-            this.own = own;
-            this.other = other;
+            this.pairs = pairs;
+        }
+
+        /** The turn that follows this one with these pairs; another one only if there was none such. */
+        Turn turnOf(long[] pairsAfter) {
+            for (Turn at = newestAfter; at != null; at = at.olderSister) {
+                if (at.isOf(pairsAfter)) {
+                    return at;
+                }
+            }
+            Turn made = new Turn(this, pairsAfter);
+            made.olderSister = newestAfter;
+            newestAfter = made;
+            return made;
+        }
+
+        /** In a pair the order says nothing: each side has its own number first. */
+        private boolean isOf(long[] others) {
+            if (others.length != pairs.length) {
+                return false;
+            }
+            for (int i = 0; i + 1 < pairs.length; i += 2) {
+                boolean straight = pairs[i] == others[i] && pairs[i + 1] == others[i + 1];
+                boolean crossed = pairs[i] == others[i + 1] && pairs[i + 1] == others[i];
+                if (!straight && !crossed) {
+                    return false;
+                }
+            }
+            return true;
         }
 
         void giveRoot() {
@@ -759,21 +807,19 @@ public final class RatchetPost {
             }
         }
 
-        boolean givesKey(int place) {
+        boolean givesKey(int place, Looker looker) {
             if (place >= chainGotFrom) {
                 return true;
             }
-            return place >= 0 && place < keyGot.length && keyGot[place] || isWorkedOut();
+            return place >= 0 && place < keyGot.length && keyGot[place] || isWorkedOutBy(looker);
         }
 
-        private boolean isWorkedOut() {
+        /** Back to a ROOT that was got, if a COMMON on the way is not what it lacks. */
+        private boolean isWorkedOutBy(Looker looker) {
             Turn at = this;
             for (int i = 0; i < MOST_TURNS; i++) {
-                if (!Start.oneGot(at.own, at.other)) {
+                if (at.before == null || !looker.worksOut(at.pairs)) {
                     return false;
-                }
-                if (at.before == null) {
-                    return at.start != null && at.start.isWorkedOut();
                 }
                 at = at.before;
                 if (at.rootGot) {
@@ -818,10 +864,13 @@ public final class RatchetPost {
         void drop(int i) {
             if (i >= 0 && i < size) {
                 size--;
-                opens[i] = opens[size];
-                places[i] = places[size];
-                keys[i] = keys[size];
-                turns[i] = turns[size];
+                // They stay in the order of their keeping: of two with one number and place the older is first.
+                for (int at = i; at < size; at++) {
+                    opens[at] = opens[at + 1];
+                    places[at] = places[at + 1];
+                    keys[at] = keys[at + 1];
+                    turns[at] = turns[at + 1];
+                }
                 turns[size] = null;
             }
         }
@@ -844,9 +893,10 @@ public final class RatchetPost {
         int beginningOnce;
         boolean beginningGoes;
         long root;
+        Turn rootTurn;
         long sending;
-        long receiving;
         Turn sendingTurn;
+        long receiving;
         Turn receivingTurn;
         Secret own;
         long other;
@@ -870,18 +920,38 @@ public final class RatchetPost {
             hasOther = true;
         }
 
-        void turnSending(Turn turn) {
-            own = turn.own;
+        void turnSending(Secret pair) {
+            own = pair;
             long x = Numbers.power(other, own.value);
             sending = Numbers.key(KEY_CHAIN, root, x);
             root = Numbers.key(KEY_ROOT, root, x);
-            sendingTurn = turn;
+            noteTurn();
+            sendingTurn = rootTurn;
         }
 
-        void giveAway() {
-            own.got = true;
+        /** The chain and the ROOT that it turned to are worked out before, without touching anything. */
+        void turnReceiving(long open, long turnedRoot) {
+            pn = ns;
+            ns = 0;
+            nr = 0;
+            meet(open);
+            root = turnedRoot;
+            noteTurn();
+            receivingTurn = rootTurn;
+        }
+
+        private void noteTurn() {
+            if (rootTurn != null) {
+                rootTurn = rootTurn.turnOf(new long[] {own.open, other});
+            }
+        }
+
+        void giveAway(Looker looker) {
+            looker.take(own);
+            if (rootTurn != null) {
+                rootTurn.giveRoot();
+            }
             if (sendingTurn != null) {
-                sendingTurn.giveRoot();
                 sendingTurn.giveChain(ns);
             }
             if (receivingTurn != null) {
@@ -940,9 +1010,9 @@ public final class RatchetPost {
             return -1;
         }
 
-        void giveAway() {
+        void giveAway(Looker looker) {
             for (int i = 0; i < size; i++) {
-                sessions[i].giveAway();
+                sessions[i].giveAway(looker);
             }
         }
     }
@@ -956,7 +1026,7 @@ public final class RatchetPost {
         long lentOpen;
         long sealOpen;
         long sealProof;
-        // Key number k stands at k; the gone ones stay here for telling how numbers came to be.
+        // Key number k stands at k; the gone ones stay, their SECRETS are handed out no more.
         private final Secret[] lentKeys = new Secret[MOST_LENT + 1];
         private final Secret[] onceKeys = new Secret[MOST_ONCE_MADE + 1];
         private final boolean[] onceUsed = new boolean[MOST_ONCE_MADE + 1];
@@ -1088,22 +1158,16 @@ public final class RatchetPost {
             }
         }
 
-        void giveAway() {
-            markGot(identity);
+        void giveAway(Looker looker) {
+            looker.take(identity);
             for (int number = 1; number <= lentNumber; number++) {
-                markGot(keptLentKey(number));
+                looker.take(keptLentKey(number));
             }
             for (int number = 1; number <= onceMade; number++) {
-                markGot(keptOnceKey(number));
+                looker.take(keptOnceKey(number));
             }
             for (int v = 0; v < rows.length; v++) {
-                rows[v].giveAway();
-            }
-        }
-
-        private static void markGot(Secret secret) {
-            if (secret != null) {
-                secret.got = true;
+                rows[v].giveAway(looker);
             }
         }
     }
@@ -1274,8 +1338,7 @@ public final class RatchetPost {
             }
         }
 
-        /** The letter being right, its turn tells how its chain came to be. */
-        void carryOut(Session session, Envelope letter, Turn turn, Person reader) {
+        void carryOut(Session session, Envelope letter, Person reader) {
             session.beginningGoes = false;
             if (keptAt >= 0) {
                 session.kept.drop(keptAt);
@@ -1283,18 +1346,13 @@ public final class RatchetPost {
             }
             keep(session, 0, oldCount);
             if (turns) {
-                session.pn = session.ns;
-                session.ns = 0;
-                session.nr = 0;
-                session.meet(letter.open);
-                session.root = root;
-                session.receivingTurn = turn;
+                session.turnReceiving(letter.open, root);
             }
             keep(session, oldCount, newCount);
             session.receiving = chain;
             session.nr = letter.place + 1;
             if (turns) {
-                session.turnSending(new Turn(turn, null, reader.drawSecret(), turn.own));
+                session.turnSending(reader.drawSecret());
             }
         }
 
