@@ -14,7 +14,7 @@ import java.util.Set;
  * it throws away if the letter is wrong, and every number bears a term that tells how it came to be.
  */
 public final class ModelRuns {
-  private static final int RUNS = 150, CALLS = 420;
+  private static final int RUNS = 180, CALLS = 420;
   private static int wrong = 0;
   private static final Map<String, Integer> SEEN = new TreeMap<>();
 
@@ -30,7 +30,7 @@ public final class ModelRuns {
     for (String edge : List.of("come -11", "come -12", "come -13", "come -14", "come -15", "come -16", "come -17",
         "come -18", "come -19", "come -1", "write -1", "write -2", "write -3", "write -10", "begin -3", "begin -10",
         "begin 1", "begin -2", "publish -3", "publish -2", "rotate -3", "rotate 20", "copy -3", "feed -3", "end -1",
-        "forge 1", "forge -1", "readable 0", "readable 1", "same 0", "same 1", "forget 4", "same -1")) {
+        "forge 1", "forge -1", "spoilt, and opened 1", "spoilt, and opened in a new session 1", "begun with a forged number 1", "readable 0", "readable 1", "same 0", "same 1", "forget 4", "same -1")) {
       if (!SEEN.containsKey(edge)) { wrong++; System.out.println("the runs never reach: " + edge); }
     }
   }
@@ -49,8 +49,9 @@ public final class ModelRuns {
       dice = new Random(run * 7919L + 5);
       int n = dice.nextInt(9);
       int seed = dice.nextInt(4) == 0 ? Integer.MAX_VALUE - dice.nextInt(3) : dice.nextInt();
-      mode = run % 5;
+      mode = run % 6;
       if (mode == 1) n = 2;
+      if (mode == 5) n = 2 + dice.nextInt(2);
       post = new RatchetPost(n, seed);
       model = new Model(n, seed);
       users = model.users.length;
@@ -93,6 +94,7 @@ public final class ModelRuns {
     void act(int i) {
       if (i < users && dice.nextInt(8) != 0) { register(i); return; }
       int roll = dice.nextInt(100);
+      if (dice.nextInt(mode == 5 ? 6 : 40) == 0) spoilWithRightTag();
       if (roll < 30) writeSome();
       else if (roll < 62) comeSome();
       else if (roll < 65) { int u = anyUser(), v = otherThan(u); begin(u, v); }
@@ -182,12 +184,74 @@ public final class ModelRuns {
       come(l, model.letter(l, 2));
     }
 
+    /** The letter's bytes from a place on become a number of so many bytes. */
+    void overwrite(int l, int place, long number, int many) {
+      for (int i = 0; i < many; i++) {
+        int mask = model.letter(l, place + i) ^ (int) (number >>> 8 * (many - 1 - i) & 255);
+        if (mask != 0) due("spoil " + l, post.spoil(l, place + i, mask), model.spoil(l, place + i, mask));
+      }
+    }
+
+    /** A PUBLIC number, one that nobody has the SECRET of, or none at all. */
+    long anyOpen(long now) {
+      switch (dice.nextInt(9)) {
+        case 0: return 7;
+        case 1: return dice.nextLong() >>> 3;
+        case 2: return dice.nextBoolean() ? 0 : dice.nextLong() | 1L << 61;
+        case 3: return (1L << 61) - 1 - now;
+        case 4: return model.number(dice.nextInt(users), dice.nextInt(5));
+        case 5: case 6: return model.inside(dice.nextInt(users), dice.nextInt(users), dice.nextInt(2), 3 + dice.nextInt(2));
+        case 7: return model.futureOpen(dice.nextInt(users), 1 + dice.nextInt(3));
+        default: return now;
+      }
+    }
+
+    /** Numbers of a letter become others, and its TAG the one that is right for them. */
+    void spoilWithRightTag() {
+      int l = anyLetter();
+      if (!model.okLetter(l)) return;
+      if (dice.nextInt(3) == 0) {
+        int made = model.copy(l);
+        due("copy " + l, say("copy", post.copy(l)), made);
+        if (made >= 0) l = made;
+      }
+      int[] b = model.letters.get(l).bytes;
+      boolean begins = b[0] == 1;
+      // What stood in a short letter's first byte may be spoilt already.
+      if (begins && b.length < 45) return;
+      int head = begins ? 23 : 3;
+      for (int many = dice.nextInt(3); many >= 0; many--) {
+        int roll = dice.nextInt(begins ? 9 : 5);
+        if (roll < 2) overwrite(l, head, anyOpen(Model.number(b, head, 8)), 8);
+        else if (roll == 2) overwrite(l, head + 8, dice.nextInt(8), 2);
+        else if (roll == 3) overwrite(l, head + 10, dice.nextInt(8), 2);
+        else if (roll == 4) { if (dice.nextInt(6) == 0) overwrite(l, 1, dice.nextInt(users), 1); }
+        else if (roll == 5) overwrite(l, 3, anyOpen(Model.number(b, 3, 8)), 8);
+        else if (roll == 6) overwrite(l, 11, anyOpen(Model.number(b, 11, 8)), 8);
+        else if (roll == 7) overwrite(l, 19, Math.max(0, model.user(b[2], 1) - dice.nextInt(3)), 2);
+        else overwrite(l, 21, dice.nextInt(4), 2);
+      }
+      Long tag = model.rightTag(b, dice.nextInt(4));
+      if (tag != null) overwrite(l, b.length - 8, tag, 8);
+      int made = model.madeInAll;
+      come(l, b[2]);
+      if (tag != null) note(model.madeInAll > made ? "spoilt, and opened in a new session" : "spoilt, and opened", 1);
+      if (dice.nextBoolean() && users > b[1]) {
+        feed();
+        due("write " + b[2] + " " + b[1], say("write", post.write(b[2], b[1])), model.write(b[2], b[1]));
+      }
+      if (dice.nextBoolean()) watchSession();
+      if (dice.nextInt(4) == 0) for (int k = 0; k < model.letters.size(); k++) due("readable " + k, say("readable", post.readable(k)), model.readable(k));
+    }
+
     void forgeSome() {
       int u = anyUser(), v = otherThan(u);
       long number = dice.nextInt(4) == 0 ? dice.nextLong() : dice.nextLong() >>> 4;
       long right = model.number(u, 1);
+      if (dice.nextBoolean() && right != 0) number = model.numberOfSameSeal(u);
       due("forge " + u, say("forge", post.forge(u, number)), model.forge(u, number));
       begin(v, u);
+      if (model.ok(u, v) && number != right && model.session(v, u, 0, 5) == 1 && model.inside(v, u, 0, 4) == number) note("begun with a forged number", 1);
       if (dice.nextBoolean()) {
         feed();
         due("write " + v + " " + u, say("write", post.write(v, u)), model.write(v, u));
@@ -328,7 +392,6 @@ public final class ModelRuns {
     static final BigInteger THREE = BigInteger.valueOf(3), WORD = BigInteger.TWO.pow(64);
     final MUser[] users;
     final Terms terms = new Terms();
-    final Map<Long, Integer> secretOfOpen = new HashMap<>();
     final List<MLetter> letters = new ArrayList<>();
     List<Integer> tape = new ArrayList<>(), reading = new ArrayList<>();
     int copies, begunInAll, madeInAll, openedInAll, looks;
@@ -369,15 +432,34 @@ public final class ModelRuns {
       user.drawn++;
       BigInteger s = plain(mix(user.seed, user.drawn)).mod(Q.subtract(BigInteger.ONE)).add(BigInteger.ONE);
       long open = THREE.modPow(s, P).longValue();
-      int term = terms.of("secret", u, user.drawn);
-      secretOfOpen.put(open, term);
-      return new Pair(s, open, term);
+      return new Pair(s, open, secretOf(open));
+    }
+
+    /** The SECRET of a PUBLIC number: nobody's, if none was drawn that has it. */
+    int secretOf(long open) { return terms.of("secret", open); }
+
+    long futureOpen(int u, int ahead) {
+      return THREE.modPow(plain(mix(users[u].seed, users[u].drawn + ahead)).mod(Q.subtract(BigInteger.ONE)).add(BigInteger.ONE), P).longValue();
+    }
+
+    /** Another number for which the SEAL of the LENT key is RIGHT (its e is the same modulo Q), or the same one. */
+    long numberOfSameSeal(int u) {
+      MUser user = users[u];
+      BigInteger e = plain(sum(user.sealR, user.lents.get(user.lents.size() - 1).open())).mod(Q);
+      for (BigInteger z = e; z.compareTo(WORD) < 0; z = z.add(Q)) {
+        BigInteger h = z;
+        for (int i = 0; i < 3; i++) h = z.xor(h.shiftRight(29));
+        h = h.multiply(new BigInteger("D6E8FEB86659FD93", 16).modInverse(WORD)).mod(WORD);
+        BigInteger g = plain(mix(0, user.sealR)).xor(new BigInteger("5851F42D4C957F2D", 16)).multiply(new BigInteger("9E3779B97F4A7C15", 16)).mod(WORD);
+        BigInteger m = h.subtract(g.xor(g.shiftRight(32))).mod(WORD);
+        if (m.signum() > 0 && m.compareTo(P) < 0 && m.longValue() != user.lents.get(user.lents.size() - 1).open()) return m.longValue();
+      }
+      return user.lentOpen;
     }
 
     Num common(Pair mine, long open) {
-      int theirs = secretOfOpen.getOrDefault(open, terms.of("secret", -1, 0));
       boolean is = open > 0 && BigInteger.valueOf(open).compareTo(P) < 0;
-      return new Num(is ? BigInteger.valueOf(open).modPow(mine.secret(), P).longValue() : 0, terms.common(mine.term(), theirs));
+      return new Num(is ? BigInteger.valueOf(open).modPow(mine.secret(), P).longValue() : 0, terms.common(mine.term(), secretOf(open)));
     }
 
     Num keyOf(int k, Num x, Num y) {
@@ -544,16 +626,21 @@ public final class ModelRuns {
       return fault == 0 ? reading.size() : -10 - fault;
     }
 
-    int comes(int[] b, int u) {
+    int atTheDoor(int[] b, int u) {
       int head = b[0] == 1 ? 23 : b[0] == 2 ? 3 : -1;
       if (head < 0 || b.length < head + 13) return 1;
       int length = b[head + 12];
       if (length < 1 || length > 40 || b.length != head + 13 + length + 8) return 1;
       if (!ok(b[1], b[2]) || b[2] != u) return 1;
-      MUser me = users[u];
-      if (me.identity == null) return 2;
-      if (openedInAll >= 400) return 10;
-      List<MSession> row = me.rows.get(b[1]);
+      if (users[u].identity == null) return 2;
+      return openedInAll >= 400 ? 10 : 0;
+    }
+
+    int comes(int[] b, int u) {
+      int door = atTheDoor(b, u);
+      if (door != 0) return door;
+      int head = b[0] == 1 ? 23 : 3;
+      List<MSession> row = users[u].rows.get(b[1]);
       if (b[0] == 2) {
         int fault = 3;
         for (int i = 0; i < row.size(); i++) {
@@ -568,13 +655,18 @@ public final class ModelRuns {
       return make(row, b, e, u);
     }
 
-    int make(List<MSession> row, int[] b, long e, int u) {
+    int faultOfNew(int[] b, long e, int u) {
       MUser me = users[u];
       int lentNumber = (int) number(b, 19, 2), once = (int) number(b, 21, 2), newest = me.lents.size();
       if (lentNumber < 1 || lentNumber > newest || lentNumber < newest - 1) return 7;
       if (me.began.contains(List.of(e, (long) lentNumber))) return 9;
       if (once != 0 && !me.keptOnces.contains(once)) return 8;
-      if (madeInAll >= 100) return 10;
+      return madeInAll >= 100 ? 10 : 0;
+    }
+
+    MSession made(int[] b, long e, int u) {
+      MUser me = users[u];
+      int lentNumber = (int) number(b, 19, 2), once = (int) number(b, 21, 2);
       Pair lent = me.lents.get(lentNumber - 1);
       MSession s = new MSession();
       s.root = firstRoot(common(lent, number(b, 3, 8)), common(me.identity, e), common(lent, e),
@@ -582,15 +674,40 @@ public final class ModelRuns {
       s.first = s.root;
       s.e = e;
       s.own = lent;
-      List<MSession> alone = new ArrayList<>(List.of(s));
-      int fault = openAt(alone, 0, b, 23, u);
+      return s;
+    }
+
+    int make(List<MSession> row, int[] b, long e, int u) {
+      int fault = faultOfNew(b, e, u);
+      if (fault != 0) return fault;
+      List<MSession> alone = new ArrayList<>(List.of(made(b, e, u)));
+      fault = openAt(alone, 0, b, 23, u);
       if (fault == 0) {
         addFirst(row, alone.get(0));
-        me.keptOnces.remove(once);
-        me.began.add(List.of(e, (long) lentNumber));
+        users[u].keptOnces.remove((int) number(b, 21, 2));
+        users[u].began.add(List.of(e, number(b, 19, 2)));
         madeInAll++;
       }
       return fault;
+    }
+
+    /** The TAG with which a letter's bytes would be opened (without a BEGINNING: in the session picked), or null. */
+    Long rightTag(int[] b, int pick) {
+      int u = b[2];
+      if (!ok(u) || atTheDoor(b, u) != 0) return null;
+      List<MSession> row = users[u].rows.get(b[1]);
+      MSession s = b[0] == 2 && pick < row.size() ? row.get(pick) : null;
+      if (b[0] == 1) {
+        long e = number(b, 11, 8);
+        for (MSession old : row) if (!old.begun && old.e == e) s = old;
+        if (s == null && faultOfNew(b, e, u) == 0) s = made(b, e, u);
+      }
+      if (s == null) return null;
+      int drawn = users[u].drawn;
+      Object[] key = new Object[1];
+      int fault = opens(s.twin(), b, b[0] == 1 ? 23 : 3, u, key);
+      users[u].drawn = drawn;
+      return fault != 0 ? null : (Long) key(6, ((Num) key[0]).value(), sum(java.util.Arrays.stream(b).limit(b.length - 8).asLongStream().toArray()));
     }
 
     int openAt(List<MSession> row, int i, int[] b, int head, int u) {
@@ -722,7 +839,7 @@ public final class ModelRuns {
 
     int same(int u, int v, int i, int j) {
       MSession a = sessionAt(u, v, i), b = sessionAt(v, u, j);
-      return a == null || b == null ? -1 : a.first.term() == b.first.term() ? 1 : 0;
+      return a == null || b == null ? -1 : a.first.value() == b.first.value() ? 1 : 0;
     }
 
     int look(int u) {

@@ -21,7 +21,7 @@ public final class PromiseTests {
     promise = 7; write(); writeBytes(); writeFull();
     promise = 8; begin(); beginRow();
     promise = 9; forget();
-    promise = 10; come(); comeFaults(); comeBeginningFaults(); comeSkipped(); comeTurned(); comeOrder(); comeWithoutChain(); comeAsAnotherKind();
+    promise = 10; come(); comeFaults(); comeBeginningFaults(); comeSkipped(); comeTurned(); comeOrder(); comeWithoutChain(); comeAsAnotherKind(); comeHundred();
     promise = 11; byteOf();
     promise = 12; copy();
     promise = 13; spoil();
@@ -33,7 +33,7 @@ public final class PromiseTests {
     promise = 19; inside();
     promise = 20; same();
     promise = 21; look();
-    promise = 22; readable(); readableOnce(); readableHeals(); readableKept(); readableLent();
+    promise = 22; readable(); readableOnce(); readableHeals(); readableKept(); readableLent(); readableForged(); readableSpoiltHead(); readableSpoiltBeginning(); readableSpoiltKept(); readableOtherBytes();
     promise = 23; count();
     System.out.println(wrong == 0 ? "all promises are kept" : wrong + " answers are not as due");
     if (wrong != 0) System.exit(1);
@@ -638,6 +638,47 @@ public final class PromiseTests {
     }
   }
 
+  /**
+   * The 101st SESSION that a letter would make, within 512 calls: 80 letters with a BEGINNING, and then the last of
+   * them with 20 other numbers for e. A second object, which is asked more, tells the bytes.
+   */
+  private static void comeHundred() {
+    RatchetPost x = registered(6, 310), y = registered(6, 310);
+    int calls = 6, l = -1;
+    for (int i = 0; i < 80; i++) {
+      int u = i < 30 ? i / 5 : 0, v = i < 30 ? (u + 1 + i % 5) % 6 : 1;
+      for (RatchetPost z : new RatchetPost[] {x, y}) {
+        if (i >= 30) due("begin", z.begin(u, v), 1);
+        z.feed(i, i, i, i, i);
+        l = z.write(u, v);
+      }
+      calls += i < 30 ? 2 : 3;
+    }
+    // They come behind all of them: who has a SESSION answers in it, and BEGINS none.
+    for (int i = 0; i < 80; i++) {
+      due("come", y.come(i, y.letter(i, 2)), 20);
+      due("come", x.come(i, y.letter(i, 2)), 20);
+      calls++;
+    }
+    for (int i = 1; i <= 21; i++) {
+      int size = y.letter(l, -1);
+      int[] before = new int[size];
+      for (int place = 0; place < size; place++) before[place] = y.letter(l, place);
+      y.spoil(l, 18, i ^ i - 1);
+      retag(y, l, rootAtReader(y, l, identityOf(311), lentOf(311), null), lentOf(311));
+      for (int place = 0; place < size; place++) {
+        int mask = before[place] ^ y.letter(l, place);
+        if (mask != 0) { x.spoil(l, place, mask); calls++; }
+      }
+      y.come(l, 1);
+      due("SESSION " + (80 + i), x.come(l, 1), i <= 20 ? 20 : -20);
+      calls++;
+    }
+    x.spoil(l, 19, 1);
+    due("a LENT key that is none is the first fault", x.come(l, 1), -17);
+    due("calls", calls + 2 <= 512 ? 1 : 0, 1);
+  }
+
   private static void byteOf() {
     RatchetPost x = registered(2, 130);
     due("byteOf(0) of none", x.byteOf(0), BAD);
@@ -989,6 +1030,188 @@ public final class PromiseTests {
     y.come(c, 1);
     y.look(1);
     due("LENT key is got", y.readable(c), 1);
+  }
+
+  /** Another number for which the SEAL of a user's LENT key is RIGHT, as its e is the same modulo Q; 0 if there is none. */
+  private static long numberOfSameSeal(RatchetPost x, int u) {
+    long lent = x.number(u, 1), r = x.number(u, 2), a = mix(0, r);
+    long g = (a ^ 0x5851F42D4C957F2DL) * 0x9E3779B97F4A7C15L;
+    BigInteger odd = plain(0xD6E8FEB86659FD93L), word = BigInteger.TWO.pow(64);
+    for (BigInteger z = plain(mix(a, lent)).mod(Q); z.compareTo(word) < 0; z = z.add(Q)) {
+      long h = z.longValue();
+      h = h ^ h >>> 29 ^ h >>> 58;
+      h = BigInteger.valueOf(h).multiply(odd.modInverse(word)).longValue() - (g ^ g >>> 32);
+      if (h > 0 && h < P.longValue() && h != lent) return h;
+    }
+    return 0;
+  }
+
+  private static void readableForged() {
+    due("a number of the issue", numberOfSameSeal(registered(2, 1), 1), 135345720259645515L);
+    int forged = 0;
+    for (int seed = 250; seed < 260; seed++) {
+      RatchetPost x = registered(2, seed);
+      long right = x.number(1, 1), other = numberOfSameSeal(x, 1);
+      if (other == 0) continue;
+      forged++;
+      x.forge(1, other);
+      int a = send(x, 0, 1, 1);
+      due("the other's", x.inside(0, 1, 0, 4), other);
+      x.look(1);
+      due("nobody has the forged number's SECRET", x.readable(a), 0);
+      refused(x, a, 1, -14);
+      int b = send(x, 0, 1, 1);
+      x.look(0);
+      due("before the SENDING chain's place", x.readable(b), 0);
+      due("behind it", x.readable(send(x, 0, 1, 1)), 1);
+      x.forge(1, right);
+      x.begin(0, 1);
+      due("of the right number", x.readable(send(x, 0, 1, 1)), 1);
+    }
+    due("forged numbers were found", forged > 3 ? 1 : 0, 1);
+  }
+
+  private static BigInteger identityOf(int seed) { return secret(seed, 1); }
+
+  private static BigInteger lentOf(int seed) { return secret(seed, 2); }
+
+  /** The first ROOT as who opens a letter works it out, with the numbers that stand in it now. */
+  private static long rootAtReader(RatchetPost x, int letter, BigInteger identity, BigInteger lent, BigInteger once) {
+    long from = bytesOf(x, letter, 3, 8), e = bytesOf(x, letter, 11, 8);
+    return sum(common(lent, from), common(identity, e), common(lent, e), once == null ? 0 : common(once, e));
+  }
+
+  /** The letter's TAG becomes the right one for a SESSION that turns from this ROOT by its own SECRET. */
+  private static void retag(RatchetPost x, int letter, long root, BigInteger own) {
+    int head = x.letter(letter, 0) == 1 ? 23 : 3, size = x.letter(letter, -1);
+    long chain = key(2, root, common(own, bytesOf(x, letter, head, 8)));
+    for (long n = bytesOf(x, letter, head + 10, 2); n > 0; n--) chain = key(4, chain, 0);
+    long[] before = new long[size - 8];
+    for (int i = 0; i < size - 8; i++) before[i] = x.letter(letter, i);
+    overwrite(x, letter, size - 8, key(6, key(3, chain, 0), sum(before)), 8);
+  }
+
+  /** The PUBLIC number in the HEAD becomes one that nobody, or another user, has the SECRET of. */
+  private static void readableSpoiltHead() {
+    for (int looked = 0; looked < 2; looked++) {
+      RatchetPost x = registered(3, 260);
+      if (looked == 1) x.look(1);
+      int a = send(x, 0, 1, 1);
+      overwrite(x, a, 23, looked == 1 ? x.number(2, 0) : 7, 8);
+      retag(x, a, rootAtReader(x, a, identityOf(261), lentOf(261), null), lentOf(261));
+      due("come", x.come(a, 1), 1);
+      due("the other's", x.inside(1, 0, 0, 4), bytesOf(x, a, 23, 8));
+      int b = send(x, 1, 0, 1);
+      due("the new pair's SECRET is not got", x.readable(b), 0);
+      x.look(0);
+      due("the writer's SECRET is of another number", x.readable(b), 0);
+      x.look(2);
+      due("the IDENTITY of another one", x.readable(b), looked);
+      x.look(1);
+      due("who opened it keeps IDENTITY, LENT key and the new pair", x.readable(b), 1);
+      due("SENDING", x.readable(send(x, 1, 0, 1)), 1);
+    }
+    // Spoilt back to what it was it is opened as if nothing had been.
+    RatchetPost y = registered(2, 262);
+    int a = send(y, 0, 1, 1);
+    long was = bytesOf(y, a, 23, 8);
+    overwrite(y, a, 23, 7, 8);
+    overwrite(y, a, 23, was, 8);
+    y.come(a, 1);
+    int b = send(y, 1, 0, 1);
+    y.look(0);
+    due("the writer's SECRET", y.readable(b), 1);
+  }
+
+  /** The IDENTITY, e, the LENT key's or the ONCE key's number becomes another one: so does the ROOT at who opens it. */
+  private static void readableSpoiltBeginning() {
+    int[][] spoilt = {{3, 8, 7}, {11, 8, 7}, {19, 2, 1}, {21, 2, 0}, {21, 2, 2}};
+    for (int[] s : spoilt) {
+      RatchetPost x = registered(2, 270);
+      x.publish(1, 2);
+      x.rotate(1);
+      int a = send(x, 0, 1, 1);
+      overwrite(x, a, s[0], s[2], s[1]);
+      BigInteger lent = s[0] == 19 ? lentOf(271) : secret(271, 6);
+      BigInteger once = s[0] == 21 ? s[2] == 0 ? null : secret(271, 5) : secret(271, 4);
+      retag(x, a, rootAtReader(x, a, identityOf(271), lent, once), lent);
+      due("come", x.come(a, 1), 1);
+      due("began from one secret", x.same(0, 1, 0, 0), 0);
+      due("SECRETS of ONCE keys", x.user(1, 6), s[0] == 21 && s[2] == 0 ? 2 : 1);
+      int b = send(x, 1, 0, 1), c = send(x, 0, 1, 1);
+      x.look(0);
+      due("the writer's ROOT is another one, " + s[0] + " " + s[2], x.readable(b), 0);
+      due("the writer's letters are of that, " + s[0] + " " + s[2], x.readable(c), 0);
+      int d = send(x, 0, 1, 1);
+      due("SENDING, " + s[0] + " " + s[2], x.readable(d), 1);
+      x.look(1);
+      // Without the ONCE key that was used the writer's ROOT is not worked out; one that was not used is still kept.
+      due("what who opens it keeps, " + s[0] + " " + s[2], x.readable(a), s[0] == 21 ? 1 : 0);
+    }
+    RatchetPost y = registered(2, 280);
+    y.look(1);
+    y.publish(1, 1);
+    int a = send(y, 0, 1, 1);
+    overwrite(y, a, 21, 0, 2);
+    retag(y, a, rootAtReader(y, a, identityOf(281), lentOf(281), null), lentOf(281));
+    y.come(a, 1);
+    int b = send(y, 1, 0, 1);
+    due("neither pair's SECRET", y.readable(b), 0);
+    y.look(0);
+    due("a ROOT of three COMMONS, and a pair's SECRET", y.readable(b), 1);
+    due("the writer's is of four", y.readable(a), 0);
+  }
+
+  /** KEPT keys of a chain that came of a spoilt number are not those of the writer's chain. */
+  private static void readableSpoiltKept() {
+    for (int spoilt = 0; spoilt < 2; spoilt++) {
+      RatchetPost x = registered(2, 290);
+      x.publish(1, 1);
+      int a = send(x, 0, 1, 1), b = send(x, 0, 1, 1), c = send(x, 0, 1, 1), d = send(x, 0, 1, 1);
+      if (spoilt == 1) {
+        overwrite(x, c, 23, 7, 8);
+        retag(x, c, rootAtReader(x, c, identityOf(291), lentOf(291), secret(291, 4)), lentOf(291));
+      }
+      due("come", x.come(c, 1), 1);
+      due("KEPT", x.session(1, 0, 0, 3), 2);
+      x.look(1);
+      due("KEPT keys", x.readable(a) + x.readable(b), spoilt == 1 ? 0 : 2);
+      due("RECEIVING", x.readable(d), 1 - spoilt);
+      due("its own is gone by", x.readable(c), 0);
+    }
+    // Of two KEPT keys with one PUBLIC number and place the one that was KEPT first is taken.
+    RatchetPost y = registered(2, 292);
+    int a = send(y, 0, 1, 1), b = send(y, 0, 1, 1), c = send(y, 0, 1, 1);
+    due("come", y.come(b, 1), 1);
+    long first = bytesOf(y, b, 23, 8);
+    for (long p : new long[] {7, first}) {
+      long root = y.inside(1, 0, 0, 0);
+      BigInteger own = secret(293, y.user(1, 5));
+      overwrite(y, c, 23, p, 8);
+      retag(y, c, root, own);
+      due("come", y.come(c, 1), 1);
+    }
+    due("KEPT", y.session(1, 0, 0, 3), 5);
+    due("the older of two", y.come(a, 1), 1);
+    due("KEPT", y.session(1, 0, 0, 3), 4);
+    refused(y, a, 1, -14);
+  }
+
+  /** A letter's bytes become those of another SESSION's letter: it is opened as that one. */
+  private static void readableOtherBytes() {
+    RatchetPost x = registered(2, 300);
+    int a = send(x, 0, 1, 1);
+    x.look(0);
+    x.begin(0, 1);
+    int b = send(x, 0, 1, 1);
+    for (int i = 0; i < x.letter(b, -1); i++) overwrite(x, a, i, x.letter(b, i), 1);
+    due("come", x.come(a, 1), 1);
+    due("began from one secret", x.same(0, 1, 0, 0), 1);
+    int c = send(x, 1, 0, 1);
+    due("the LOOK was before that SESSION", x.readable(c), 0);
+    x.look(0);
+    due("this one was not", x.readable(c), 1);
+    due("as they were written", x.readable(a) + x.readable(b), 0);
   }
 
   private static void count() {

@@ -442,9 +442,9 @@ public final class RatchetPost {
                 Numbers.power(other.lentOpen, fresh.value),
                 Numbers.power(onceOpen, fresh.value));
         Secret pair = writer.drawSecret();
-        Session session = new Session(true, root, fresh.open, pair);
-        session.rootTurn = noTurn.turnOf(firstPairs(
+        Turn first = noTurn.turnOf(firstPairs(
                 writer.identity.open, other.identity.open, fresh.open, other.lentOpen, onceOpen));
+        Session session = new Session(true, root, fresh.open, pair, first);
         session.beginningLent = other.lentNumber;
         session.beginningOnce = once;
         session.meet(other.lentOpen);
@@ -555,9 +555,10 @@ public final class RatchetPost {
                 Numbers.power(envelope.beginningOpen, person.identity.value),
                 Numbers.power(envelope.beginningOpen, lentKey.value),
                 commonWith(onceKey, envelope.beginningOpen));
-        Session session = new Session(false, root, envelope.beginningOpen, lentKey);
+        Session session = new Session(false, root, envelope.beginningOpen, lentKey, noTurn);
         int fault = opening.plan(session, envelope);
         if (fault == NO_FAULT) {
+            // Only now, so that a letter that is not right leaves no turn behind.
             session.rootTurn = noTurn.turnOf(firstPairs(envelope.identity, person.identity.open,
                     envelope.beginningOpen, lentKey.open, openOf(onceKey)));
             opening.carryOut(session, envelope, person);
@@ -906,13 +907,14 @@ public final class RatchetPost {
         int pn;
         final KeptKeys kept = new KeptKeys();
 
-        Session(boolean begunHere, long root, long beginningOpen, Secret own) {
+        Session(boolean begunHere, long root, long beginningOpen, Secret own, Turn rootTurn) {
             this.begunHere = begunHere;
             this.beginningGoes = begunHere;
             this.firstRoot = root;
             this.root = root;
             this.beginningOpen = beginningOpen;
             this.own = own;
+            this.rootTurn = rootTurn;
         }
 
         void meet(long open) {
@@ -925,7 +927,7 @@ public final class RatchetPost {
             long x = Numbers.power(other, own.value);
             sending = Numbers.key(KEY_CHAIN, root, x);
             root = Numbers.key(KEY_ROOT, root, x);
-            noteTurn();
+            rootTurn = rootTurn.turnOf(new long[] {own.open, other});
             sendingTurn = rootTurn;
         }
 
@@ -936,21 +938,13 @@ public final class RatchetPost {
             nr = 0;
             meet(open);
             root = turnedRoot;
-            noteTurn();
+            rootTurn = rootTurn.turnOf(new long[] {own.open, other});
             receivingTurn = rootTurn;
-        }
-
-        private void noteTurn() {
-            if (rootTurn != null) {
-                rootTurn = rootTurn.turnOf(new long[] {own.open, other});
-            }
         }
 
         void giveAway(Looker looker) {
             looker.take(own);
-            if (rootTurn != null) {
-                rootTurn.giveRoot();
-            }
+            rootTurn.giveRoot();
             if (sendingTurn != null) {
                 sendingTurn.giveChain(ns);
             }
