@@ -815,7 +815,7 @@ public final class RatchetPost {
             return place >= 0 && place < keyGot.length && keyGot[place] || isWorkedOutBy(looker);
         }
 
-        /** Back to a ROOT that was got, if a COMMON on the way is not what it lacks. */
+        /** Goes back, over COMMONS that who LOOKED works out, to a ROOT that was got. */
         private boolean isWorkedOutBy(Looker looker) {
             Turn at = this;
             for (int i = 0; i < MOST_TURNS; i++) {
