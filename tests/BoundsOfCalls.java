@@ -384,6 +384,10 @@ public final class BoundsOfCalls extends Check {
     refused("begin of 100 with a forged one", x, FULL, y -> y.begin(0, 1));
     x.forget(0, 1);
     refused("begin behind forget of 100", x, FULL, y -> y.begin(0, 1));
+    Post z = Post.registered(2, 36);
+    z.feedAndWrite(0, 1);
+    for (int i = 1; i < 80; i++) z.copy(0);
+    due("begin is not bound by 80 letters", z.begin(0, 1), 1);
   }
 
   private static void beginSeal() {
@@ -428,6 +432,8 @@ public final class BoundsOfCalls extends Check {
     refused("forget of none", x, 0, y -> y.forget(0, 2));
     refused("forget of none REGISTERED", x, 0, y -> y.forget(0, 3));
     due("forget of one", x.forget(0, 1), 1);
+    due("the other side has its own", x.sessions(1, 0), 1);
+    due("and opens what was written before", x.come(0, 1), 4);
     refused("forget again", x, 0, y -> y.forget(0, 1));
     for (int many = 1; many <= 6; many++) {
       Post z = Post.registered(3, 38);

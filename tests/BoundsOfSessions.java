@@ -21,6 +21,7 @@ public final class BoundsOfSessions extends Check {
     of("3: SKIPPED: more than 10 at once, of the old chain and of the new one together"); tenTogether();
     of("3: SKIPPED: or have more than 20"); twenty();
     of("3: SKIPPED: or have more than 20, of a letter that TURNS"); twentyTurning();
+    of("3: SKIPPED: a letter of a chain that is gone would turn, and KEEP keys"); goneChain();
     of("3: SKIPPED: the highest numbers"); highest();
     of("3: p the other's and no RECEIVING chain: as a wrong TAG"); noReceiving();
     of("3: else nothing has: no SESSION, no draw is other than before"); nothingHas();
@@ -170,7 +171,11 @@ public final class BoundsOfSessions extends Check {
 
   private static void beginningGoes() {
     Post x = Post.registered(2, 806);
-    for (int i = 0; i < 3; i++) due("kind", x.letter(x.send(0, 1, 1), 0), 1);
+    x.publish(1, 2);
+    for (int i = 0; i < 3; i++) {
+      due("kind", x.letter(x.send(0, 1, 1), 0), 1);
+      if (i == 0) x.rotate(1);
+    }
     due("come", x.come(0, 1), 1);
     due("it came, but no answer did", x.letter(x.send(0, 1, 1), 0), 1);
     int answer = x.send(1, 0, 2);
@@ -442,6 +447,16 @@ public final class BoundsOfSessions extends Check {
         fault(what, x, l, 1, 5);
       }
     }
+  }
+
+  /** All letters of a chain were opened, and the next chain was turned to: then p is not the other's any more. */
+  private static void goneChain() {
+    Post x = Post.registered(2, 824);
+    for (int i = 0; i < 14; i++) x.deliver(0, 1, 1);
+    for (int n : new int[] {0, 10, 11, 13}) fault("n = " + n + " of the chain that is there", x, n, 1, 6);
+    x.deliver(1, 0, 1);
+    x.deliver(0, 1, 1);
+    for (int n = 0; n < 14; n++) fault("n = " + n + " of the chain before", x, n, 1, n <= 10 ? 4 : 5);
   }
 
   private static void highest() {

