@@ -17,6 +17,7 @@ public final class BoundsOfNumbers extends Check {
       of("1: THE COMMON of what is not 1 .. P - 1: 0; a HEAD that turns a SESSION that is there"); answer(seed);
     }
     of("1: SECRETS of both kinds were there"); bothKinds();
+    of("1: THE COMMON is 1, modulo P"); commonOfOne();
     of("1: THE COMMON of 1 .. P - 1 is that to the power of the SECRET"); powers();
     of("1: MIX: products wrap, shifts are without sign"); mixes();
     of("1: a SECRET drawn is without sign, modulo Q - 1, and 1"); secrets();
@@ -106,6 +107,27 @@ public final class BoundsOfNumbers extends Check {
       for (int seed = FIRST_SEED + 1; seed <= LAST_SEED + 1; seed++) odd += secret(seed, draw).mod(TWO).intValue();
       holds("draw " + draw, odd > 0 && odd < LAST_SEED - FIRST_SEED + 1);
     }
+  }
+
+  /** A number whose power of a small order is 1: then products come out as 1, at the end of what modulo P leaves. */
+  private static void commonOfOne() {
+    int ones = 0;
+    for (int order : new int[] {2, 3, 5, 6, 7, 9, 10, 11, 13, 14, 15}) {
+      long root = open(Q.divide(BigInteger.valueOf(order)));
+      for (int seed = 420; seed < 450; seed++) {
+        BigInteger lent = lentOf(seed + 1);
+        if (common(lent, root) != 1) continue;
+        ones++;
+        Post x = Post.registered(2, seed);
+        int l = x.send(0, 1, 3);
+        x.overwrite(l, 23, root, 8);
+        openNew(x, l, seed, null);
+        Post y = Post.registered(2, seed);
+        y.overwrite(y.send(0, 1, 3), 11, root, 8);
+        openNew(y, 0, seed, null);
+      }
+    }
+    holds("COMMONS that are 1 were there", ones > 30);
   }
 
   private static void powers() {
