@@ -11,6 +11,7 @@ public final class BoundsOfLooks extends Check {
     of("5: KEPT keys"); keptKeys();
     of("5: KEPT keys of two chains"); keptOfTwoChains();
     of("5: 20 KEPT keys"); twentyKept();
+    of("5: KEPT keys of places that no letter has"); keptBehindAllLetters();
     of("5: the ROOT and the own SECRET"); rootAndOwn();
     of("5: a KEY from both that it is of"); bothOfAKey();
     of("5: of all SESSIONS"); allSessions();
@@ -220,6 +221,23 @@ public final class BoundsOfLooks extends Check {
     due("KEPT", x.session(1, 0, 0, 3), 20);
     x.look(1);
     for (int i = 0; i < 23; i++) due("place " + i, x.readable(i), i == 10 || i == 21 ? 0 : 1);
+  }
+
+  /** 80 letters have the places 0 .. 79; the last one is spoilt so that it is the 90th of its chain. */
+  private static void keptBehindAllLetters() {
+    Post x = Post.registered(2, 1025);
+    x.publish(1, 1);
+    for (int i = 0; i < 80; i++) x.feedAndWrite(0, 1);
+    for (int i = 0; i < 79; i++) due("come", x.come(i, 1), 20);
+    long chain = x.inside(1, 0, 0, 2);
+    for (int place = 79; place < 89; place++) chain = key(4, chain, 0);
+    x.overwrite(79, 33, 89, 2);
+    x.retagWithKey(79, key(3, chain, 0));
+    due("come", x.come(79, 1), 20);
+    due("KEPT", x.session(1, 0, 0, 3), 10);
+    due("NR", x.session(1, 0, 0, 1), 90);
+    due("look", x.look(1), 1);
+    for (int i = 0; i < 80; i++) due("letter " + i, x.readable(i), i == 79 ? 1 : 0);
   }
 
   /** Behind a LOOK at 0 its own SECRET opens one turn of the other one; the next one has new pairs on both sides. */
