@@ -31,7 +31,7 @@ public final class ModelRuns {
     for (String edge : List.of("come -11", "come -12", "come -13", "come -14", "come -15", "come -16", "come -17",
         "come -18", "come -19", "come -1", "write -1", "write -2", "write -3", "write -10", "begin -3", "begin -10",
         "begin 1", "begin -2", "publish -3", "publish -2", "rotate -3", "rotate 20", "copy -3", "feed -3", "end -1",
-        "forge 1", "forge -1", "spoilt, and opened 1", "spoilt, and opened in a new session 1", "begun with a forged number 1", "readable 0", "readable 1", "same 0", "same 1", "forget 4", "same -1")) {
+        "forge 1", "forge -1", "spoilt, and opened 1", "spoilt, and opened in a new session 1", "begun with a forged number 1", "opened with a number that was drawn later 1", "readable 0", "readable 1", "same 0", "same 1", "forget 4", "same -1")) {
       if (!SEEN.containsKey(edge)) { wrong++; System.out.println("the runs never reach: " + edge); }
     }
   }
@@ -43,6 +43,8 @@ public final class ModelRuns {
     final Model model;
     final int users, mode;
     final List<String> told = new ArrayList<>();
+    /** Numbers that nobody had drawn when a letter with them was opened. */
+    final List<Long> nobodys = new ArrayList<>();
     final int[] interesting = {0, 1, 2, 3, 10, 11, 18, 19, 20, 21, 22, 23, 30, 31, 32, 33, 34, 35, 36};
 
     Run(int run) {
@@ -235,6 +237,8 @@ public final class ModelRuns {
       Long tag = model.rightTag(b, dice.nextInt(4));
       if (tag != null) overwrite(l, b.length - 8, tag, 8);
       int made = model.madeInAll;
+      long open = Model.number(b, head, 8);
+      if (tag != null && !model.isDrawn(open)) nobodys.add(open);
       come(l, b[2]);
       if (tag != null) note(model.madeInAll > made ? "spoilt, and opened in a new session" : "spoilt, and opened", 1);
       if (dice.nextBoolean() && users > b[1]) {
@@ -279,6 +283,7 @@ public final class ModelRuns {
     }
 
     void everything() {
+      for (long open : nobodys) if (model.isDrawn(open)) note("opened with a number that was drawn later", 1);
       for (int u = -1; u <= users; u++) {
         for (int what = -1; what < 9; what++) {
           due("user " + u + " " + what, post.user(u, what), model.user(u, what));
@@ -350,12 +355,17 @@ public final class ModelRuns {
 
   private record Pair(BigInteger secret, long open, int term) { }
 
+  /** A PUBLIC number as somebody met it, with the term of its SECRET. */
+  private record Met(long open, int term) { }
+
+  private record Draw(int user, int number) { }
+
   private record Kept(long open, int place, Num key) { }
 
   private static final class MSession {
     Num root, sending, receiving, first;
     Pair own;
-    Long other;
+    Met other;
     int ns, nr, pn, lent, once;
     List<Kept> kept = new ArrayList<>();
     boolean begun, goes;
@@ -393,6 +403,8 @@ public final class ModelRuns {
     static final BigInteger THREE = BigInteger.valueOf(3), WORD = BigInteger.TWO.pow(64);
     final MUser[] users;
     final Terms terms = new Terms();
+    /** Draws that were taken back are still here: those above a user's count were not drawn. */
+    final Map<Long, Draw> draws = new HashMap<>();
     final List<MLetter> letters = new ArrayList<>();
     List<Integer> tape = new ArrayList<>(), reading = new ArrayList<>();
     int copies, begunInAll, madeInAll, openedInAll, looks;
@@ -433,11 +445,21 @@ public final class ModelRuns {
       user.drawn++;
       BigInteger s = plain(mix(user.seed, user.drawn)).mod(Q.subtract(BigInteger.ONE)).add(BigInteger.ONE);
       long open = THREE.modPow(s, P).longValue();
-      return new Pair(s, open, secretOf(open));
+      draws.put(open, new Draw(u, user.drawn));
+      return new Pair(s, open, terms.of("secret", u, user.drawn));
     }
 
-    /** The SECRET of a PUBLIC number: nobody's, if none was drawn that has it. */
-    int secretOf(long open) { return terms.of("secret", open); }
+    boolean isDrawn(long open) {
+      Draw draw = draws.get(open);
+      return draw != null && draw.number() <= users[draw.user()].drawn;
+    }
+
+    /** A PUBLIC number that stands somewhere now: its SECRET is nobody's, if none was drawn till now that has it. */
+    Met meet(long open) {
+      if (!isDrawn(open)) return new Met(open, terms.of("secret", "nobody's", open));
+      Draw draw = draws.get(open);
+      return new Met(open, terms.of("secret", draw.user(), draw.number()));
+    }
 
     long futureOpen(int u, int ahead) {
       return THREE.modPow(plain(mix(users[u].seed, users[u].drawn + ahead)).mod(Q.subtract(BigInteger.ONE)).add(BigInteger.ONE), P).longValue();
@@ -458,9 +480,10 @@ public final class ModelRuns {
       return user.lentOpen;
     }
 
-    Num common(Pair mine, long open) {
+    Num common(Pair mine, Met met) {
+      long open = met.open();
       boolean is = open > 0 && BigInteger.valueOf(open).compareTo(P) < 0;
-      return new Num(is ? BigInteger.valueOf(open).modPow(mine.secret(), P).longValue() : 0, terms.common(mine.term(), secretOf(open)));
+      return new Num(is ? BigInteger.valueOf(open).modPow(mine.secret(), P).longValue() : 0, terms.common(mine.term(), met.term()));
     }
 
     Num keyOf(int k, Num x, Num y) {
@@ -536,11 +559,12 @@ public final class ModelRuns {
       BigInteger right = BigInteger.valueOf(it.identity.open()).modPow(e0, P).multiply(BigInteger.valueOf(it.sealR)).mod(P);
       if (!left.equals(right)) return -10;
       MSession s = new MSession();
+      s.other = meet(it.lentOpen);
+      Met identity = meet(it.identity.open()), onceKey = once == 0 ? null : meet(it.onces.get(once - 1).open());
       Pair e = draw(u);
-      s.root = firstRoot(common(me.identity, it.lentOpen), common(e, it.identity.open()), common(e, it.lentOpen),
-          once == 0 ? null : common(e, it.onces.get(once - 1).open()));
+      s.root = firstRoot(common(me.identity, s.other), common(e, identity), common(e, s.other),
+          onceKey == null ? null : common(e, onceKey));
       s.first = s.root;
-      s.other = it.lentOpen;
       s.e = e.open();
       s.lent = it.lents.size();
       s.once = once;
@@ -670,8 +694,9 @@ public final class ModelRuns {
       int lentNumber = (int) number(b, 19, 2), once = (int) number(b, 21, 2);
       Pair lent = me.lents.get(lentNumber - 1);
       MSession s = new MSession();
-      s.root = firstRoot(common(lent, number(b, 3, 8)), common(me.identity, e), common(lent, e),
-          once == 0 ? null : common(me.onces.get(once - 1), e));
+      Met met = meet(e);
+      s.root = firstRoot(common(lent, meet(number(b, 3, 8))), common(me.identity, met), common(lent, met),
+          once == 0 ? null : common(me.onces.get(once - 1), met));
       s.first = s.root;
       s.e = e;
       s.own = lent;
@@ -742,7 +767,7 @@ public final class ModelRuns {
         Kept k = s.kept.get(i);
         if (k.open() == p && k.place() == n) { key[0] = k.key(); s.kept.remove(i); return 0; }
       }
-      boolean same = s.other != null && s.other == p;
+      boolean same = s.other != null && s.other.open() == p;
       if (same && s.receiving == null) return 4;
       if (same && n < s.nr) return 6;
       int old = !same && s.receiving != null && pn > s.nr ? pn - s.nr : 0;
@@ -754,8 +779,8 @@ public final class ModelRuns {
         s.pn = s.ns;
         s.ns = 0;
         s.nr = 0;
-        s.other = p;
-        Num x = common(s.own, p);
+        s.other = meet(p);
+        Num x = common(s.own, s.other);
         s.receiving = keyOf(2, s.root, x);
         s.root = keyOf(1, s.root, x);
         turn(s, u);
@@ -768,7 +793,7 @@ public final class ModelRuns {
     }
 
     void keepOne(MSession s) {
-      s.kept.add(new Kept(s.other, s.nr, keyOf(3, s.receiving, null)));
+      s.kept.add(new Kept(s.other.open(), s.nr, keyOf(3, s.receiving, null)));
       s.receiving = keyOf(4, s.receiving, null);
     }
 
@@ -835,7 +860,7 @@ public final class ModelRuns {
     long inside(int u, int v, int i, int what) {
       MSession s = sessionAt(u, v, i);
       if (s == null || what < 0 || what > 4) return 0;
-      return new long[] {s.root.value(), s.sending.value(), s.receiving == null ? 0 : s.receiving.value(), s.own.open(), s.other}[what];
+      return new long[] {s.root.value(), s.sending.value(), s.receiving == null ? 0 : s.receiving.value(), s.own.open(), s.other.open()}[what];
     }
 
     int same(int u, int v, int i, int j) {

@@ -24,7 +24,7 @@ public final class PromiseTests extends Check {
     of("promise 19"); inside();
     of("promise 20"); same();
     of("promise 21"); look();
-    of("promise 22"); readable(); readableOnce(); readableHeals(); readableKept(); readableLent(); readableForged(); readableSpoiltHead(); readableSpoiltBeginning(); readableSpoiltKept(); readableOtherBytes();
+    of("promise 22"); readable(); readableOnce(); readableHeals(); readableKept(); readableLent(); readableForged(); readableSpoiltHead(); readableSpoiltBeginning(); readableSpoiltKept(); readableOtherBytes(); readableDrawnLater(); readableAnswerDrawnLater(); readableOwnDrawnLater(); readableSameValue();
     of("promise 23"); count();
     end("all promises are kept");
   }
@@ -1042,6 +1042,120 @@ public final class PromiseTests extends Check {
     x.look(0);
     due("this one was not", x.readable(c), 1);
     due("as they were written", x.readable(a) + x.readable(b), 0);
+  }
+
+  /** The PUBLIC number that a user (of this SEED) draws next. */
+  private static long nextOpen(Post x, int u, long seed) {
+    return open(secret(seed, x.user(u, 5) + 1));
+  }
+
+  /**
+   * The IDENTITY, e and the PUBLIC number in the HEAD become numbers that users 2, 3 and 4 draw next, as ONCE keys:
+   * before they are spoilt, before the letter is opened, or afterwards. Then it is another number of the same value.
+   */
+  private static void readableDrawnLater() {
+    int[] places = {3, 11, 23};
+    for (int when = 0; when < 27; when++) {
+      Post x = Post.registered(5, 310);
+      int a = x.send(0, 1, 1), at = when;
+      boolean before = true;
+      long[] opens = new long[3];
+      for (int i = 0; i < 3; i++, at /= 3) {
+        opens[i] = nextOpen(x, i + 2, 312 + i);
+        if (at % 3 == 0) x.publish(i + 2, 1);
+        x.overwrite(a, places[i], opens[i], 8);
+        if (at % 3 == 1) x.publish(i + 2, 1);
+        before &= at % 3 != 2;
+      }
+      x.retagTurning(a, x.rootAtReader(a, identityOf(311), lentOf(311), null), lentOf(311));
+      due("come", x.come(a, 1), 1);
+      int b = x.send(1, 0, 1);
+      at = when;
+      for (int i = 0; i < 3; i++, at /= 3) {
+        if (at % 3 == 2) x.publish(i + 2, 1);
+        due("its value", x.number(i + 2, 4), opens[i]);
+        due("not yet", x.readable(b), 0);
+        x.look(i + 2);
+      }
+      due("numbers drawn before it was opened, " + when, x.readable(b), before ? 1 : 0);
+      x.look(1);
+      due("who opened it has one of both SECRETS each", x.readable(b), 1);
+    }
+  }
+
+  /** The same with the HEAD of a letter without a BEGINNING. */
+  private static void readableAnswerDrawnLater() {
+    for (int when = 0; when < 3; when++) {
+      Post x = Post.registered(3, 320);
+      x.deliver(0, 1, 1);
+      x.deliver(1, 0, 1);
+      int c = x.send(0, 1, 1);
+      x.look(1);
+      long root = x.inside(1, 0, 0, 0), next = nextOpen(x, 2, 322);
+      if (when == 0) x.publish(2, 1);
+      x.overwrite(c, 3, next, 8);
+      x.retagTurning(c, root, secret(321, x.user(1, 5)));
+      if (when == 1) x.publish(2, 1);
+      due("come", x.come(c, 1), 1);
+      int d = x.send(1, 0, 1);
+      if (when == 2) x.publish(2, 1);
+      due("its value", x.number(2, 4), next);
+      due("a new pair", x.readable(d), 0);
+      x.look(2);
+      due("a number drawn before it was opened, " + when, x.readable(d), when < 2 ? 1 : 0);
+      x.look(1);
+      due("the new pair's SECRET", x.readable(d), 1);
+    }
+  }
+
+  /** The PUBLIC number in the HEAD is that of the pair which is drawn by opening the letter: nobody had drawn it then. */
+  private static void readableOwnDrawnLater() {
+    for (int rotated = 1; rotated <= 2; rotated++) {
+      Post x = Post.registered(3, 330);
+      x.publish(2, 2);
+      x.look(2);
+      int a = x.send(0, 1, 1);
+      // Who LOOKED at 2 has the SECRETS of all first COMMONS.
+      x.overwrite(a, 3, open(secret(332, 4)), 8);
+      x.overwrite(a, 11, open(secret(332, 5)), 8);
+      x.overwrite(a, 23, nextOpen(x, 1, 331), 8);
+      x.retagTurning(a, x.rootAtReader(a, identityOf(331), lentOf(331), null), lentOf(331));
+      due("come", x.come(a, 1), 1);
+      due("one value", x.inside(1, 0, 0, 3), x.inside(1, 0, 0, 4));
+      int b = x.send(1, 0, 1);
+      for (int i = 0; i < rotated; i++) x.rotate(1);
+      x.look(1);
+      due("the ROOT before it needs the LENT key's SECRET, " + rotated, x.readable(b), rotated == 1 ? 1 : 0);
+      due("SENDING", x.readable(x.send(1, 0, 1)), 1);
+    }
+  }
+
+  /**
+   * 0 opens a letter with the PUBLIC number of the pair that 1 has drawn, or will draw: so chains of both have one
+   * value. If nobody had drawn that number, 0's chain came to be in another way than 1's.
+   */
+  private static void readableSameValue() {
+    for (int later = 0; later < 2; later++) {
+      Post x = Post.registered(2, 340);
+      x.publish(1, 1);
+      int a = x.send(0, 1, 1), forged = x.copy(a);
+      long next = nextOpen(x, 1, 341);
+      if (later == 0) due("come", x.come(a, 1), 1);
+      // A letter of 1 byte with a BEGINNING is as long as one of 21 bytes without it.
+      x.overwrite(forged, 0, 0x020100, 3);
+      x.overwrite(forged, 3, next, 8);
+      x.overwrite(forged, 11, 0, 4);
+      x.overwrite(forged, 15, 21, 1);
+      x.retagTurning(forged, x.inside(0, 1, 0, 0), secret(340, x.user(0, 5)));
+      due("come", x.come(forged, 0), 21);
+      if (later == 1) due("come", x.come(a, 1), 1);
+      due("one value", x.inside(1, 0, 0, 3), next);
+      x.look(0);
+      int b = x.send(1, 0, 1), c = x.send(1, 0, 1);
+      due("its place is gone by", x.readable(b), 0);
+      due("RECEIVING, the number drawn " + (later == 1 ? "later" : "before"), x.readable(c), 1 - later);
+      due("the values agree", x.come(c, 0), 1);
+    }
   }
 
   private static void count() {

@@ -41,8 +41,7 @@ public final class RatchetPost {
     // Every coming letter is taken apart and tried in these two, so that none needs its own.
     private final Envelope envelope = new Envelope();
     private final Opening opening = new Opening();
-    private final Looker looker = new Looker();
-    private final Turn noTurn = new Turn(null, new long[0]);
+    private final Turn noTurn = new Turn(null, new Secret[0]);
 
     public RatchetPost(int n, int seed) {
         int users = Math.max(LEAST_USERS, Math.min(MOST_USERS, n));
@@ -366,7 +365,7 @@ public final class RatchetPost {
         if (!isUser(u)) {
             return BAD;
         }
-        people[u].giveAway(looker);
+        people[u].giveAway();
         lookCount++;
         return lookCount;
     }
@@ -376,7 +375,7 @@ public final class RatchetPost {
             return BAD;
         }
         Letter asked = letters[letter];
-        return oneIf(asked.turn.givesKey(asked.place, looker));
+        return oneIf(asked.turn.givesKey(asked.place));
     }
 
     public int count(int what) {
@@ -422,6 +421,21 @@ public final class RatchetPost {
         return secret == null ? 0 : Numbers.power(open, secret.value);
     }
 
+    /**
+     * The SECRET of a PUBLIC number that stands in a letter or in the DIRECTORY; null, if nobody has
+     * drawn it. It is asked when the number is used, before anything is drawn: a number that is
+     * drawn later may have the same value, but came to be in another way.
+     */
+    private Secret secretOf(long open) {
+        for (int u = 0; u < people.length; u++) {
+            Secret found = people[u].drawnWith(open);
+            if (found != null) {
+                return found;
+            }
+        }
+        return null;
+    }
+
     // ---- beginning and writing
 
     private int beginSession(int u, int v) {
@@ -434,31 +448,33 @@ public final class RatchetPost {
         if (!other.sealIsRight()) {
             return SEAL_WRONG;
         }
-        long onceOpen = openOf(other.onceKey(once));
+        Secret onceKey = other.onceKey(once);
+        Secret lentKey = secretOf(other.lentOpen);
         Secret fresh = writer.drawSecret();
         long root = Numbers.sum(
                 Numbers.power(other.lentOpen, writer.identity.value),
                 Numbers.power(other.identity.open, fresh.value),
                 Numbers.power(other.lentOpen, fresh.value),
-                Numbers.power(onceOpen, fresh.value));
+                Numbers.power(openOf(onceKey), fresh.value));
         Secret pair = writer.drawSecret();
         Turn first = noTurn.turnOf(firstPairs(
-                writer.identity.open, other.identity.open, fresh.open, other.lentOpen, onceOpen));
+                writer.identity, other.identity, fresh, lentKey, onceKey));
         Session session = new Session(true, root, fresh.open, pair, first);
         session.beginningLent = other.lentNumber;
         session.beginningOnce = once;
-        session.meet(other.lentOpen);
+        session.meet(other.lentOpen, lentKey);
         session.turnSending(pair);
         writer.rows[v].putFirst(session);
         begunCount++;
         return 1;
     }
 
-    /** The pairs of PUBLIC numbers that A, B, C and, with a ONCE key (not 0), D are of. */
-    private static long[] firstPairs(long writer, long other, long fresh, long lent, long once) {
-        return once == 0
-                ? new long[] {writer, lent, fresh, other, fresh, lent}
-                : new long[] {writer, lent, fresh, other, fresh, lent, fresh, once};
+    /** The pairs of SECRETS that A, B, C and, with a ONCE key, D are of. */
+    private static Secret[] firstPairs(
+            Secret writer, Secret other, Secret fresh, Secret lent, Secret once) {
+        return once == null
+                ? new Secret[] {writer, lent, fresh, other, fresh, lent}
+                : new Secret[] {writer, lent, fresh, other, fresh, lent, fresh, once};
     }
 
     private Letter writeIn(Session session, int u, int v) {
@@ -529,7 +545,7 @@ public final class RatchetPost {
         }
         int fault = opening.plan(session, envelope);
         if (fault == NO_FAULT) {
-            opening.carryOut(session, envelope, person);
+            opening.carryOut(session, envelope, person, secretOf(envelope.open));
             row.bringFirst(at);
         }
         return fault;
@@ -559,9 +575,9 @@ public final class RatchetPost {
         int fault = opening.plan(session, envelope);
         if (fault == NO_FAULT) {
             // Only now, so that a letter that is not right leaves no turn behind.
-            session.rootTurn = noTurn.turnOf(firstPairs(envelope.identity, person.identity.open,
-                    envelope.beginningOpen, lentKey.open, openOf(onceKey)));
-            opening.carryOut(session, envelope, person);
+            session.rootTurn = noTurn.turnOf(firstPairs(secretOf(envelope.identity),
+                    person.identity, secretOf(envelope.beginningOpen), lentKey, onceKey));
+            opening.carryOut(session, envelope, person, secretOf(envelope.open));
             person.rows[envelope.from].putFirst(session);
             person.useOnce(envelope.onceNumber);
             person.remember(envelope.beginningOpen, envelope.lentNumber);
@@ -696,64 +712,43 @@ public final class RatchetPost {
         }
     }
 
-    /** A SECRET with its PUBLIC number. */
+    /** A SECRET that somebody drew, with its PUBLIC number. */
     private static final class Secret {
         final long value;
         final long open;
-        // Who LOOKED has what it got in a chain, the newest first.
+        // What a user drew is a chain, the newest first.
+        private final Secret drawnBefore;
         private boolean got;
-        private Secret gotBefore;
 
-        Secret(long value, long open) {
+        Secret(long value, long open, Secret drawnBefore) {
             this.value = value;
             this.open = open;
+            this.drawnBefore = drawnBefore;
         }
-    }
 
-    /** Who LOOKED, with all SECRETS that it got. */
-    private static final class Looker {
-        private Secret gotLast;
-
-        void take(Secret secret) {
-            if (secret != null && !secret.got) {
+        static void give(Secret secret) {
+            if (secret != null) {
                 secret.got = true;
-                secret.gotBefore = gotLast;
-                gotLast = secret;
             }
         }
 
-        /** Asked by the PUBLIC number, because a forged or spoilt one has no SECRET or another one. */
-        private boolean hasSecretOf(long open) {
-            for (Secret at = gotLast; at != null; at = at.gotBefore) {
-                if (at.open == open) {
-                    return true;
-                }
-            }
-            return false;
-        }
-
-        /** Whether of each pair of PUBLIC numbers it has one SECRET. */
-        boolean worksOut(long[] pairs) {
-            for (int i = 0; i + 1 < pairs.length; i += 2) {
-                if (!hasSecretOf(pairs[i]) && !hasSecretOf(pairs[i + 1])) {
-                    return false;
-                }
-            }
-            return true;
+        static boolean isGot(Secret secret) {
+            return secret != null && secret.got;
         }
     }
 
     /**
      * How a ROOT and the chain beside it came to be, and what of them was got by LOOKS: of the
-     * ROOT of the turn before and of COMMONS, which are told by their pairs of PUBLIC numbers. (A
-     * first ROOT has no chain.) What came to be in one way is one turn, whoever worked it out: so
-     * what is got at one side is known of the other side's too, as far as both went the same way.
+     * ROOT of the turn before and of COMMONS, which are told by their pairs of SECRETS (null: of a
+     * number that nobody had drawn). (A first ROOT has no chain.) What came to be in one way is one
+     * turn, whoever worked it out: so what is got at one side is known of the other side's too, as
+     * far as both went the same way.
      */
     private static final class Turn {
         private static final int MOST_TURNS = 2000, NEVER = 1_000_000;
 
         private final Turn before;
-        private final long[] pairs;
+        private final Secret[] pairs;
         // The turns that follow this one are a chain of sisters, the newest first.
         private Turn newestAfter;
         private Turn olderSister;
@@ -761,13 +756,13 @@ public final class RatchetPost {
         private int chainGotFrom = NEVER;
         private final boolean[] keyGot = new boolean[MOST_LETTERS];
 
-        Turn(Turn before, long[] pairs) {
+        Turn(Turn before, Secret[] pairs) {
             this.before = before;
             this.pairs = pairs;
         }
 
         /** The turn that follows this one with these pairs; another one only if there was none such. */
-        Turn turnOf(long[] pairsAfter) {
+        Turn turnOf(Secret[] pairsAfter) {
             for (Turn at = newestAfter; at != null; at = at.olderSister) {
                 if (at.isOf(pairsAfter)) {
                     return at;
@@ -779,15 +774,19 @@ public final class RatchetPost {
             return made;
         }
 
-        /** In a pair the order says nothing: each side has its own number first. */
-        private boolean isOf(long[] others) {
+        /**
+         * In a pair the order says nothing: each side has its own SECRET first. A number that nobody
+         * had drawn came to be for itself: it is the same as no other one.
+         */
+        private boolean isOf(Secret[] others) {
             if (others.length != pairs.length) {
                 return false;
             }
             for (int i = 0; i + 1 < pairs.length; i += 2) {
+                boolean drawn = pairs[i] != null && pairs[i + 1] != null;
                 boolean straight = pairs[i] == others[i] && pairs[i + 1] == others[i + 1];
                 boolean crossed = pairs[i] == others[i + 1] && pairs[i + 1] == others[i];
-                if (!straight && !crossed) {
+                if (!drawn || !straight && !crossed) {
                     return false;
                 }
             }
@@ -808,18 +807,18 @@ public final class RatchetPost {
             }
         }
 
-        boolean givesKey(int place, Looker looker) {
+        boolean givesKey(int place) {
             if (place >= chainGotFrom) {
                 return true;
             }
-            return place >= 0 && place < keyGot.length && keyGot[place] || isWorkedOutBy(looker);
+            return place >= 0 && place < keyGot.length && keyGot[place] || isWorkedOut();
         }
 
         /** Goes back, over COMMONS that who LOOKED works out, to a ROOT that was got. */
-        private boolean isWorkedOutBy(Looker looker) {
+        private boolean isWorkedOut() {
             Turn at = this;
             for (int i = 0; i < MOST_TURNS; i++) {
-                if (at.before == null || !looker.worksOut(at.pairs)) {
+                if (at.before == null || !at.hasCommons()) {
                     return false;
                 }
                 at = at.before;
@@ -828,6 +827,16 @@ public final class RatchetPost {
                 }
             }
             return false;
+        }
+
+        /** Whether of each pair one SECRET was got. */
+        private boolean hasCommons() {
+            for (int i = 0; i + 1 < pairs.length; i += 2) {
+                if (!Secret.isGot(pairs[i]) && !Secret.isGot(pairs[i + 1])) {
+                    return false;
+                }
+            }
+            return true;
         }
     }
 
@@ -901,6 +910,7 @@ public final class RatchetPost {
         Turn receivingTurn;
         Secret own;
         long other;
+        private Secret otherSecret;
         boolean hasOther;
         int ns;
         int nr;
@@ -917,8 +927,10 @@ public final class RatchetPost {
             this.rootTurn = rootTurn;
         }
 
-        void meet(long open) {
+        /** With the SECRET that the other's PUBLIC number is of, or null if nobody has drawn it. */
+        void meet(long open, Secret secret) {
             other = open;
+            otherSecret = secret;
             hasOther = true;
         }
 
@@ -927,23 +939,23 @@ public final class RatchetPost {
             long x = Numbers.power(other, own.value);
             sending = Numbers.key(KEY_CHAIN, root, x);
             root = Numbers.key(KEY_ROOT, root, x);
-            rootTurn = rootTurn.turnOf(new long[] {own.open, other});
+            rootTurn = rootTurn.turnOf(new Secret[] {own, otherSecret});
             sendingTurn = rootTurn;
         }
 
         /** The chain and the ROOT that it turned to are worked out before, without touching anything. */
-        void turnReceiving(long open, long turnedRoot) {
+        void turnReceiving(long open, Secret secret, long turnedRoot) {
             pn = ns;
             ns = 0;
             nr = 0;
-            meet(open);
+            meet(open, secret);
             root = turnedRoot;
-            rootTurn = rootTurn.turnOf(new long[] {own.open, other});
+            rootTurn = rootTurn.turnOf(new Secret[] {own, otherSecret});
             receivingTurn = rootTurn;
         }
 
-        void giveAway(Looker looker) {
-            looker.take(own);
+        void giveAway() {
+            Secret.give(own);
             rootTurn.giveRoot();
             if (sendingTurn != null) {
                 sendingTurn.giveChain(ns);
@@ -1004,9 +1016,9 @@ public final class RatchetPost {
             return -1;
         }
 
-        void giveAway(Looker looker) {
+        void giveAway() {
             for (int i = 0; i < size; i++) {
-                sessions[i].giveAway(looker);
+                sessions[i].giveAway();
             }
         }
     }
@@ -1015,6 +1027,7 @@ public final class RatchetPost {
     private static final class Person {
         private final long seed;
         int drawn;
+        private Secret drawnLast;
         Secret identity;
         int lentNumber;
         long lentOpen;
@@ -1046,7 +1059,17 @@ public final class RatchetPost {
         Secret drawSecret() {
             drawn++;
             long value = Numbers.secretOf(Numbers.mix(seed, drawn));
-            return new Secret(value, Numbers.power(Numbers.BASE, value));
+            drawnLast = new Secret(value, Numbers.power(Numbers.BASE, value), drawnLast);
+            return drawnLast;
+        }
+
+        Secret drawnWith(long open) {
+            for (Secret at = drawnLast; at != null; at = at.drawnBefore) {
+                if (at.open == open) {
+                    return at;
+                }
+            }
+            return null;
         }
 
         void enrol() {
@@ -1152,16 +1175,16 @@ public final class RatchetPost {
             }
         }
 
-        void giveAway(Looker looker) {
-            looker.take(identity);
+        void giveAway() {
+            Secret.give(identity);
             for (int number = 1; number <= lentNumber; number++) {
-                looker.take(keptLentKey(number));
+                Secret.give(keptLentKey(number));
             }
             for (int number = 1; number <= onceMade; number++) {
-                looker.take(keptOnceKey(number));
+                Secret.give(keptOnceKey(number));
             }
             for (int v = 0; v < rows.length; v++) {
-                rows[v].giveAway(looker);
+                rows[v].giveAway();
             }
         }
     }
@@ -1332,7 +1355,7 @@ public final class RatchetPost {
             }
         }
 
-        void carryOut(Session session, Envelope letter, Person reader) {
+        void carryOut(Session session, Envelope letter, Person reader, Secret secretOfOpen) {
             session.beginningGoes = false;
             if (keptAt >= 0) {
                 session.kept.drop(keptAt);
@@ -1340,7 +1363,7 @@ public final class RatchetPost {
             }
             keep(session, 0, oldCount);
             if (turns) {
-                session.turnReceiving(letter.open, root);
+                session.turnReceiving(letter.open, secretOfOpen, root);
             }
             keep(session, oldCount, newCount);
             session.receiving = chain;
